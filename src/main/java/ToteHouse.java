@@ -921,34 +921,44 @@ public final class ToteHouse {
     }
 
     private int dividendIf(int kind, int a, int b, int c) {
+        Share share = shares[kind];
+        int size = tally[slotOf(kind, a, b, c)];
+        share.countOne(size);
         if (kind == PLACE) {
-            countPlaceTakers(a, b, c);
-        } else {
-            shares[kind].countOne(tally[slotOf(kind, a, b, c)]);
+            share.countAlso(unitsToPlace(b));
+            share.countAlso(unitsToPlaceThird(c));
         }
-        return shares[kind].dividendFor(tally[slotOf(kind, a, b, c)]);
+        return share.dividendFor(size);
     }
 
-    private int countPlaceTakers(int a, int b, int c) {
-        Share share = shares[PLACE];
-        share.countOne(tally[slotOf(PLACE, a, 0, 0)]);
-        share.countAlso(tally[slotOf(PLACE, b, 0, 0)]);
-        int third = share.places < 3 ? 0 : tally[slotOf(PLACE, c, 0, 0)];
-        share.countAlso(third);
-        return third;
+    private int unitsToPlace(int runner) {
+        return tally[slotOf(PLACE, runner, 0, 0)];
+    }
+
+    private int unitsToPlaceThird(int runner) {
+        return shares[PLACE].places < 3 ? 0 : unitsToPlace(runner);
     }
 
     private int dueIf(int kind, int a, int b, int c) {
         int size = tally[slotOf(kind, a, b, c)];
+        if (size == 0) {
+            return 0;
+        }
         shares[kind].countOne(size);
         return size * shares[kind].dividendFor(size);
     }
 
     private int placeDueIf(int a, int b, int c) {
-        int third = countPlaceTakers(a, b, c);
-        int first = tally[slotOf(PLACE, a, 0, 0)];
-        int second = tally[slotOf(PLACE, b, 0, 0)];
+        int first = unitsToPlace(a);
+        int second = unitsToPlace(b);
+        int third = unitsToPlaceThird(c);
+        if (first + second + third == 0) {
+            return 0;
+        }
         Share share = shares[PLACE];
+        share.countOne(first);
+        share.countAlso(second);
+        share.countAlso(third);
         return first * share.dividendFor(first) + second * share.dividendFor(second)
                 + third * share.dividendFor(third);
     }

@@ -26,6 +26,7 @@ public final class ModelTest {
         {"lap", "rB", "3"}, {"lapAt", "rs", "1"}, {"pace", "rk", "2"}, {"remainder", "rsB", "2"}, {"ask", "tk", "3"},
         {"trace", "k", "2"}, {"finding", "", "2"}, {"count", "w", "2"}, {"digest", "", "1"}};
 
+    private final int seed;
     private final Dice dice;
     private final Looks tote = new Looks(new ToteHouse());
     private final Looks plain = new Looks(new PlainTote());
@@ -35,6 +36,7 @@ public final class ModelTest {
     private boolean wrong;
 
     private ModelTest(int seed) {
+        this.seed = seed;
         dice = new Dice(seed);
     }
 
@@ -48,12 +50,12 @@ public final class ModelTest {
             }
         }
         for (int seed = 1; seed <= RUNS; seed++) {
-            new ModelTest(seed).run(seed, pot, forms);
+            new ModelTest(seed).run(pot, forms);
         }
         Check.end();
     }
 
-    private void run(int seed, List<String> pot, Map<String, String> forms) {
+    private void run(List<String> pot, Map<String, String> forms) {
         begin();
         while (left > 0 && !wrong) {
             if (dice.once(40)) {
@@ -73,7 +75,7 @@ public final class ModelTest {
         Map<String, Long> due = plain.all();
         for (String what : due.keySet()) {
             if (!wrong && !due.get(what).equals(seen.get(what))) {
-                tell(seed, what + " looks " + seen.get(what) + ", due is " + due.get(what));
+                tell(what + " looks " + seen.get(what) + ", due is " + due.get(what));
             }
         }
     }
@@ -84,7 +86,8 @@ public final class ModelTest {
             call("race", dice.from(2, 12));
             for (int kind = 0; kind < 4; kind++) {
                 if (!dice.once(5)) {
-                    call("pool", r, kind, dice.once(3) ? 0 : dice.from(0, 500), 10 * dice.from(1, dice.once(3) ? 100 : 5));
+                    int unit = 10 * dice.from(1, dice.once(3) ? 100 : 5);
+                    call("pool", r, kind, dice.once(3) ? 0 : dice.from(0, 500), unit);
                 }
             }
         }
@@ -180,11 +183,11 @@ public final class ModelTest {
             pools.add((int) due);
         }
         if (got != due) {
-            tell(0, name + Arrays.toString(args) + " answered " + got + ", due is " + due);
+            tell(name + Arrays.toString(args) + " answered " + got + ", due is " + due);
         }
     }
 
-    private void tell(int seed, String words) {
+    private void tell(String words) {
         wrong = true;
         Check.tell("seed " + seed + ": " + words + "\n  behind " + String.join("\n  ", made));
     }

@@ -19,6 +19,7 @@ public final class TicketsTest {
         odds();
         book();
         worst();
+        worstByPlaces();
         worstOfTwo();
         premium();
         premiumOfMuch();
@@ -105,6 +106,9 @@ public final class TicketsTest {
         due(x.sell(0, 0, 1, 0, 0, 1), FULL);
         due(x.count(2), 200);
         due(x.count(3), 199);
+        due(x.ticket(199, 4), 1);
+        due(x.ticket(200, 4), UNKNOWN);
+        due(x.ask(200, 0), UNKNOWN);
         due(x.book(0, 0), 2000);
         x.off(0);
         due(x.sell(0, 0, 1, 0, 0, 1), STATE);
@@ -367,6 +371,22 @@ public final class TicketsTest {
         due(x.worst(0), STATE);
         due(x.worstDue(), 90);
         worstWithoutTheDouble();
+    }
+
+    private static void worstByPlaces() {
+        ToteHouse x = Given.race(9);
+        x.sell(0, 1, 2, 0, 0, 7);
+        x.sell(0, 1, 4, 0, 0, 3);
+        x.sell(0, 1, 9, 0, 0, 6);
+        // NET 160: 2 alone would have 140, 4 alone 150, all three 160, and any two at most 130.
+        due(x.worst(0), 20409);
+        due(x.worstDue(), 160);
+        x.scratch(0, 1);
+        x.scratch(0, 3);
+        // With seven RUNNERS the third does not count.
+        due(x.worst(0), 40502);
+        due(x.worstDue(), 150);
+        due(x.raceAt(0, 2), 7);
     }
 
     private static void worstWithoutTheDouble() {
