@@ -1,6 +1,9 @@
 /** Days that several tests begin with. */
 final class Given {
     static final int LEAST = Integer.MIN_VALUE, MOST = Integer.MAX_VALUE;
+    /** Numbers of nothing, of no RUNNER, below and above all that is taken; some wrap to 0 when multiplied. */
+    static final int[] WILD = {LEAST, LEAST + 1, LEAST + 10, -(1 << 30), -(1 << 16), -1, 1 << 16, 1 << 28, 1 << 29,
+        1 << 30, 3 << 29, MOST - 10, MOST - 1, MOST};
 
     private Given() {
     }
@@ -35,6 +38,22 @@ final class Given {
         x.sell(0, 3, 1, 2, 3, 4);
         x.sell(0, 48, 1, 1, 0, 4);
         return x;
+    }
+
+    /** So many RACES of 4 RUNNERS, without POOLS. */
+    static ToteHouse races(int n) {
+        ToteHouse x = new ToteHouse();
+        for (int i = 0; i < n; i++) {
+            x.race(4);
+        }
+        return x;
+    }
+
+    /** The RUNNERS of a RACE from least to most are taken OUT. */
+    static void without(ToteHouse x, int race, int least, int most) {
+        for (int runner = least; runner <= most; runner++) {
+            x.scratch(race, runner);
+        }
     }
 
     /** The RACE is OFF and OFFICIAL with these POSITIONS of RUNNERS 1, 2, ..; what official() answers. */
