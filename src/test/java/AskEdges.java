@@ -290,6 +290,18 @@ final class AskEdges {
         due(x.digest(), digestOf(1, 2, 1, 0, 0, 0, 0, -1, 0, 0));
         x.official(0);
         due(x.digest(), digestOf(2, 2, 1, 0, 0, 0, 0, -1, 0, 0));
+        // What was CARRIED IN, to the ORDER of RACE 1 alone.
+        ToteHouse y = new ToteHouse();
+        y.race(3);
+        y.race(2);
+        y.pool(0, 3, 0, 10);
+        y.pool(1, 3, 0, 10);
+        y.sell(0, 3, 1, 2, 3, 7);
+        Given.run(y, 0, 3, 2, 1);
+        due(y.digest(), digestOf(2, 3, 2, 1, 0, 0, 0, 0, 70,
+                3, 70, 0, 0, 0, 0, 70, 0, 0, 0, 0, 1,
+                7, 0, 0, 0, 0, 70, 0, 0, 0, 0, 0, 0,
+                1, 2, 7, 0, 0));
     }
 
     private static void digestOfPools() {
@@ -315,6 +327,22 @@ final class AskEdges {
                 4, 0, 0, 0, 0, 0, 0, 0, 0, 0, 0, 0,
                 48, 0, 0, 0, 0, 0, 0, 0, 0, 0, 0, 0,
                 1, 2, 2, 1, 1, 2, 5, 3, 0));
+        // The first number that there is, and the last two.
+        ToteHouse y = Given.races(12);
+        y.pool(0, 0, 0, 10);
+        y.pool(11, 3, 0, 10);
+        y.twin(0, 11, 0, 10);
+        long[] numbers = new long[12 * 6 + 3 * 12 + 1];
+        numbers[12 * 6 + 12] = 47;
+        numbers[12 * 6 + 24] = 48;
+        due(y.digest(), digestOf(numbers));
+        y.sell(0, 0, 1, 0, 0, 1);
+        due(y.book(0, 0), 10);
+        numbers = java.util.Arrays.copyOf(numbers, numbers.length + 4);
+        numbers[12 * 6 + 1] = 10;
+        numbers[numbers.length - 5] = 1;
+        numbers[numbers.length - 3] = 1;
+        due(y.digest(), digestOf(numbers));
     }
 
     private static void digestOfTickets() {

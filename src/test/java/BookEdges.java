@@ -363,6 +363,7 @@ final class BookEdges {
                 + " became OFFICIAL so now: 10000 a + 100 b + c.", BookEdges::worstIsTheMost);
         Doc.promise(21, "by their numbers, the first one", BookEdges::worstIsTheFirst);
         Doc.promise(21, "of two, if there are but two", BookEdges::worstOfTwo);
+        Doc.promise(21, "for which most would be DUE", BookEdges::worstOfPlaceAlone);
         Doc.promise(21, "by all POOLS of the RACE together", BookEdges::worstWithoutTheDouble);
         Doc.promise(21, "UNKNOWN;", BookEdges::worstUnknown);
         Doc.promise(21, "STATE: it is OFFICIAL;", BookEdges::worstState);
@@ -400,6 +401,50 @@ final class BookEdges {
             due(x.worst(1), row);
             due(x.worstDue(), most);
             due(x.digest(), before);
+        }
+    }
+
+    /** PLACE alone, of n RUNNERS, with UNITS for RUNNERS 1, 2, ..; and what each ROW would have, really run. */
+    private static ToteHouse places(int n, int... units) {
+        ToteHouse x = new ToteHouse();
+        x.race(n);
+        x.pool(0, 1, 200, 10);
+        for (int i = 0; i < units.length; i++) {
+            if (units[i] > 0) {
+                x.sell(0, 1, i + 1, 0, 0, units[i]);
+            }
+        }
+        return x;
+    }
+
+    private static void worstOfPlaceAlone() {
+        int[][] sold = {{1}, {0, 1}, {0, 0, 0, 0, 1}, {1, 1}, {0, 2, 2}, {3, 0, 0, 3}, {1, 2, 3}, {1, 1, 1, 1, 1},
+            {9, 1, 0, 0, 1}, {0, 5, 1, 4}};
+        for (int[] units : sold) {
+            for (int n : new int[] {5, 8}) {
+                int most = -1;
+                int row = 0;
+                for (int code = 0; code < n * n * n; code++) {
+                    int a = 1 + code / n / n;
+                    int b = 1 + code / n % n;
+                    int c = 1 + code % n;
+                    if (a != b && a != c && b != c) {
+                        ToteHouse x = places(n, units);
+                        int odds = x.odds(1, a, b, c);
+                        x.off(0);
+                        x.place(0, a, 1);
+                        x.place(0, b, 2);
+                        x.place(0, c, 3);
+                        x.official(0);
+                        due(odds, x.dividend(1, a, 0, 0));
+                        row = x.book(1, 8) > most ? 10000 * a + 100 * b + c : row;
+                        most = Math.max(most, x.book(1, 8));
+                    }
+                }
+                ToteHouse y = places(n, units);
+                due(y.worst(0), row);
+                due(y.worstDue(), most);
+            }
         }
     }
 

@@ -247,6 +247,7 @@ final class LapEdges {
 
     private static void remainderTold() {
         int[] numbers = {0, MINUS, SMALLEST, MINUS | SMALLEST, 2, 3, 0x007FFFFF, 0x00800000, 0x00800001, 0x01000000,
+            0x01000001, 0x01400000, 0x01800001,
             0x3DCCCCCD, ONE, MINUS | ONE, 0x3F800001, 0x3F7FFFFF, TWO, 0x40400000, 0x40490FDB, 0x4B7FFFFF, 0x4B800000,
             0x7F000000, 0x7F7FFFFE, GREATEST, MINUS | GREATEST};
         for (int lap : numbers) {

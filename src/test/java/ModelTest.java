@@ -3,10 +3,16 @@ import java.util.Arrays;
 import java.util.LinkedHashMap;
 import java.util.List;
 import java.util.Map;
+import java.util.Set;
 
-/** Runs of calls by dice: ToteHouse has to answer each as PlainTote does, and to look like it. */
+/** Runs of calls by dice: ToteHouse has to answer each as PlainTote does. */
 public final class ModelTest {
-    private static final int RUNS = 400, CALLS = 512;
+    private static final int RUNS = 500, CALLS = 512;
+    /** So many of them are kept for the results of all RACES, and for looks. */
+    private static final int AT_THE_END = 210, LOOKS = 110;
+    private static final Set<String> LOOKING = Set.of("raceAt", "ticket", "units", "dividend", "odds", "book", "worst",
+            "premium", "kind", "read", "letter", "coinAt", "change", "held", "lapAt", "pace", "remainder", "ask", "trace",
+            "count");
     private static final int[] EDGES = {-1, 0, 1, 2, 4, 5, 6, 8, 9, 10, 11, 12, 13, 48, 49, 200, 500, 501, 1000, 1001,
         -2, Integer.MIN_VALUE, Integer.MAX_VALUE};
     private static final int[] BITS = {0, Integer.MIN_VALUE, 1, 0x3F800000, 0xBF800000, 0x7F7FFFFF, 0xFF7FFFFF,
@@ -28,8 +34,8 @@ public final class ModelTest {
 
     private final int seed;
     private final Dice dice;
-    private final Looks tote = new Looks(new ToteHouse());
-    private final Looks plain = new Looks(new PlainTote());
+    private final Caller tote = new Caller(new ToteHouse());
+    private final Caller plain = new Caller(new PlainTote());
     private final List<String> made = new ArrayList<>();
     private final List<Integer> pools = new ArrayList<>();
     private int left = CALLS;
@@ -57,26 +63,35 @@ public final class ModelTest {
 
     private void run(List<String> pot, Map<String, String> forms) {
         begin();
-        while (left > 0 && !wrong) {
+        boolean allRun = seed % 2 == 0;
+        while (left > (allRun ? AT_THE_END : LOOKS) && !wrong) {
             if (dice.once(40)) {
                 finish(dice.below(12));
             } else if (dice.once(4)) {
                 sellWell();
             } else {
-                String name = pot.get(dice.below(pot.size()));
-                call(name, arguments(forms.get(name)));
+                dare(pot, forms);
             }
         }
-        for (int race = 0; race < 12 && seed % 2 == 0; race++) {
-            left = 99;
+        for (int race = 0; race < 12 && allRun; race++) {
             finish(race);
         }
-        Map<String, Long> seen = tote.all();
-        Map<String, Long> due = plain.all();
-        for (String what : due.keySet()) {
-            if (!wrong && !due.get(what).equals(seen.get(what))) {
-                tell(what + " looks " + seen.get(what) + ", due is " + due.get(what));
-            }
+        look(pot, forms);
+    }
+
+    private void dare(List<String> pot, Map<String, String> forms) {
+        String name = pot.get(dice.below(pot.size()));
+        call(name, arguments(forms.get(name)));
+    }
+
+    private void look(List<String> pot, Map<String, String> forms) {
+        for (String name : new String[] {"digest", "rest", "unclaimed", "worstDue", "came", "finding"}) {
+            call(name);
+        }
+        List<String> looks = new ArrayList<>(pot);
+        looks.removeIf(name -> !LOOKING.contains(name));
+        while (left > 0 && !wrong) {
+            dare(looks, forms);
         }
     }
 

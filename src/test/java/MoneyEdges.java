@@ -387,6 +387,20 @@ final class MoneyEdges {
         due(place(0, 10, 1, 2, 7).dividend(1, 1, 0, 0), 10 + 30);
         due(place(0, 10, 4, 6, 0).dividend(1, 1, 0, 0), 10);
         figures(place(0, 10, 1, 2, 7), 1, 100, 0, 0, 0, 0, 0, 100 - 40 - 2 * 20, 0, 80, 0, 1);
+        // Of that POOL alone: another one was SETTLED, and odds() asked for, before.
+        ToteHouse x = new ToteHouse();
+        for (int race = 0; race < 2; race++) {
+            x.race(5);
+            x.pool(race, 1, 0, 10);
+            x.sell(0, 4 * race + 1, 1, 0, 0, 1);
+            x.sell(0, 4 * race + 1, 3, 0, 0, 9);
+        }
+        due(x.odds(1, 3, 1, 2), 10);
+        Given.run(x, 0, 1, 2, 3);
+        due(x.odds(5, 3, 1, 2), 10);
+        Given.run(x, 1, 1, 2, 3);
+        due(x.dividend(1, 1, 0, 0), 100);
+        due(x.dividend(5, 1, 0, 0), 100);
     }
 
     private static void gainBelowZero() {

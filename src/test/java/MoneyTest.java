@@ -178,22 +178,23 @@ public final class MoneyTest {
             Given.run(x, 0, heats[h]);
             int won = 0;
             for (int t = 0; t < 60; t++) {
+                int[] row = {x.ticket(t, 1), x.ticket(t, 2), x.ticket(t, 3)};
                 int[] p = new int[3];
                 for (int i = 0; i < 3; i++) {
-                    int runner = x.ticket(t, 1 + i);
-                    p[i] = runner == 5 ? 99 : heats[h][runner - 1];
+                    p[i] = row[i] == 5 ? 99 : heats[h][row[i] - 1];
                 }
-                boolean wins = p[0] <= p[1] && p[1] <= p[2] && p[2] < 99 && noneAhead(x, t, heats[h], p[2]);
-                due(x.ticket(t, 7), wins ? 60000 / rows[h] : 0);
-                won += x.ticket(t, 7) > 0 ? 1 : 0;
+                boolean wins = p[0] <= p[1] && p[1] <= p[2] && p[2] < 99 && noneAhead(row, heats[h], p[2]);
+                int dueToIt = x.ticket(t, 7);
+                due(dueToIt, wins ? 60000 / rows[h] : 0);
+                won += dueToIt > 0 ? 1 : 0;
             }
             due(won, rows[h]);
         }
     }
 
-    private static boolean noneAhead(ToteHouse x, int t, int[] positions, int last) {
+    private static boolean noneAhead(int[] row, int[] positions, int last) {
         for (int i = 1; i <= positions.length; i++) {
-            boolean in = x.ticket(t, 1) == i || x.ticket(t, 2) == i || x.ticket(t, 3) == i;
+            boolean in = row[0] == i || row[1] == i || row[2] == i;
             if (!in && positions[i - 1] < last) {
                 return false;
             }

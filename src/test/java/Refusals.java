@@ -1,7 +1,6 @@
 import java.lang.reflect.Method;
 import java.util.ArrayList;
 import java.util.Arrays;
-import java.util.HashMap;
 import java.util.List;
 import java.util.Map;
 import java.util.TreeSet;
@@ -25,7 +24,7 @@ final class Refusals {
 
     private static final List<String> REFUSALS = List.of("UNKNOWN", "OUTSIDE", "SAME", "GONE", "STATE", "FULL");
     private static final List<String> FINDINGS = List.of("NULL", "INDEX", "CAST", "STORE", "SIZE", "ZERO");
-    private static final Map<String, Method> CALLS = calls();
+    private static final Map<String, Method> CALLS = Caller.callsOf(ToteHouse.class);
 
     private final int promise;
     private final String name;
@@ -49,16 +48,6 @@ final class Refusals {
     /** Of a call that answers 0 when it is refused. */
     static Refusals byZero(int promise, String name) {
         return new Refusals(promise, name, true);
-    }
-
-    private static Map<String, Method> calls() {
-        Map<String, Method> all = new HashMap<>();
-        for (Method m : ToteHouse.class.getDeclaredMethods()) {
-            if (java.lang.reflect.Modifier.isPublic(m.getModifiers())) {
-                all.put(m.getName(), m);
-            }
-        }
-        return all;
     }
 
     Refusals on(GridDay... which) {
@@ -178,11 +167,7 @@ final class Refusals {
         for (int i = 0; i < a.length; i++) {
             args[i] = m.getParameterTypes()[i] == long.class ? (Object) (long) a[i] : (Object) a[i];
         }
-        try {
-            return ((Number) m.invoke(x, args)).longValue();
-        } catch (ReflectiveOperationException e) {
-            throw new IllegalStateException(told(a), e);
-        }
+        return new Caller(x).call(name, args);
     }
 
     private String told(int[] a) {

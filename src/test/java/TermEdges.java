@@ -308,6 +308,13 @@ final class TermEdges {
         due(x.scratch(0, 5), 1);
         due(x.ticket(0, 5), REFUNDED);
         due(x.ticket(0, 1), 5);
+        // The same number in both RACES: that of the RACE alone is changed.
+        ToteHouse w = Given.twoRaces();
+        w.sell(0, 48, 2, 2, 0, 3);
+        w.substitute(1, 4);
+        due(w.scratch(1, 2), 1);
+        due(w.ticket(0, 1), 2);
+        due(w.ticket(0, 2), 4);
         // The SUBSTITUTE is OUT already.
         ToteHouse y = Given.twoRaces();
         y.sell(0, 48, 2, 2, 0, 3);
@@ -531,7 +538,23 @@ final class TermEdges {
         due(y.raceAt(2, 4), 10);
     }
 
+    private static void theDoubleWinsWithFew() {
+        for (int left = 1; left <= 2; left++) {
+            ToteHouse x = Given.races(2);
+            x.twin(0, 1, 0, 10);
+            x.sell(0, 48, 1, 1, 0, 1);
+            x.sell(0, 48, 1, 2, 0, 1);
+            Given.without(x, 0, left + 1, 4);
+            Given.without(x, 1, 3, 4);
+            Given.run(x, 0, 1, 2);
+            Given.run(x, 1, 1, 2);
+            due(x.ticket(0, 7), 20);
+            due(x.ticket(1, 7), 0);
+        }
+    }
+
     private static void theDoubleWins() {
+        theDoubleWinsWithFew();
         for (int first = 0; first < HEATS.length; first++) {
             int second = (first * 7 + 3) % HEATS.length;
             ToteHouse x = new ToteHouse();

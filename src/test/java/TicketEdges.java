@@ -451,6 +451,16 @@ final class TicketEdges {
         due(x.dividend(2, 3, 4, 0), 0);
         x.pay(0);
         due(x.dividend(0, 1, 0, 0), 20);
+        // One that is CANCELLED, for the same RUNNER, ahead of and behind the LIVE one.
+        ToteHouse z = Given.races(1);
+        z.pool(0, 0, 0, 10);
+        z.sell(0, 0, 1, 0, 0, 1);
+        z.sell(0, 0, 1, 0, 0, 1);
+        z.sell(0, 0, 1, 0, 0, 1);
+        z.cancel(0);
+        z.cancel(2);
+        Given.run(z, 0, 1, 2, 3);
+        due(z.dividend(0, 1, 0, 0), 10);
         // Of a POOL without TICKETS; and for a RUNNER that is OUT.
         ToteHouse y = Given.race(6);
         y.scratch(0, 6);
