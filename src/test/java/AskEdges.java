@@ -247,8 +247,8 @@ final class AskEdges {
     private static void digests() {
         Doc.promise(50, "DIGEST: h is 17; then for each of these numbers h becomes 31 h and it, as longs that wrap:",
                 AskEdges::digestWraps);
-        Doc.promise(50, "of each RACE its state, then of RUNNERS 1, 2, .. what raceAt() tells (10 + i), what was CARRIED IN"
-                + " to its ORDER;", AskEdges::digestOfRaces);
+        Doc.promise(50, "of each RACE its state, then of RUNNERS 1, 2, .. what raceAt() tells (10 + i), what was"
+                + " CARRIED IN to its ORDER;", AskEdges::digestOfRaces);
         Doc.promise(50, "of each POOL by number that number and book() 0 to 10;", AskEdges::digestOfPools);
         Doc.promise(50, "of each TICKET a, b, UNITS, state;", AskEdges::digestOfTickets);
         Doc.promise(50, "THE REST.", AskEdges::digestOfRest);

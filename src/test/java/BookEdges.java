@@ -20,8 +20,8 @@ final class BookEdges {
     }
 
     private static void odds() {
-        Doc.promise(17, "What dividend() of a POOL of a RACE would tell for its RUNNERS, if the RACE became OFFICIAL now,"
-                + " a having POSITION 1, b 2, c 3, no others any", BookEdges::oddsAreTheDividends);
+        Doc.promise(17, "What dividend() of a POOL of a RACE would tell for its RUNNERS, if the RACE became OFFICIAL"
+                + " now, a having POSITION 1, b 2, c 3, no others any", BookEdges::oddsAreTheDividends);
         Doc.promise(17, "(c 0: two alone);", BookEdges::oddsOfTwoAlone);
         Doc.promise(17, "nothing is changed.", BookEdges::oddsChangeNothing);
         Doc.promise(17, "UNKNOWN: also THE DOUBLE;", BookEdges::oddsUnknown);
@@ -203,10 +203,11 @@ final class BookEdges {
     }
 
     private static void books() {
-        Doc.promise(18, "Of a POOL, in cents: 0 STAKES of all TICKETS that were sold, 1 of those CANCELLED, 2 of those"
-                + " REFUNDED,", BookEdges::bookOfStakes);
-        Doc.promise(18, "3 DEDUCTED, 4 CARRIED IN, 5 CARRIED OUT, 6 BREAKAGE, 7 COST, 8 what is DUE to all that were LIVE"
-                + " as it was SETTLED, 9 what was PAID; 10 1 if it is SETTLED, else 0.", BookEdges::bookOfSettled);
+        Doc.promise(18, "Of a POOL, in cents: 0 STAKES of all TICKETS that were sold, 1 of those CANCELLED, 2 of"
+                + " those REFUNDED,", BookEdges::bookOfStakes);
+        Doc.promise(18, "3 DEDUCTED, 4 CARRIED IN, 5 CARRIED OUT, 6 BREAKAGE, 7 COST, 8 what is DUE to all that were"
+                + " LIVE as it was SETTLED, 9 what was PAID; 10 1 if it is SETTLED, else 0.",
+                BookEdges::bookOfSettled);
         Doc.promise(18, "3, 5 to 8: 0 before.", BookEdges::bookBefore);
         Doc.promise(18, "UNKNOWN;", BookEdges::bookUnknown);
         Doc.promise(18, "OUTSIDE.", BookEdges::bookOutside);
@@ -358,9 +359,9 @@ final class BookEdges {
     }
 
     private static void worsts() {
-        Doc.promise(21, "Of all ROWS of three RUNNERS that are not OUT (all different; of two, if there are but two), by"
-                + " their numbers, the first one for which most would be DUE by all POOLS of the RACE together, if it"
-                + " became OFFICIAL so now: 10000 a + 100 b + c.", BookEdges::worstIsTheMost);
+        Doc.promise(21, "Of all ROWS of three RUNNERS that are not OUT (all different; of two, if there are but two),"
+                + " by their numbers, the first one for which most would be DUE by all POOLS of the RACE together, if"
+                + " it became OFFICIAL so now: 10000 a + 100 b + c.", BookEdges::worstIsTheMost);
         Doc.promise(21, "by their numbers, the first one", BookEdges::worstIsTheFirst);
         Doc.promise(21, "of two, if there are but two", BookEdges::worstOfTwo);
         Doc.promise(21, "for which most would be DUE", BookEdges::worstOfPlaceAlone);
@@ -545,8 +546,8 @@ final class BookEdges {
     }
 
     private static void premiums() {
-        Doc.promise(23, "What a WINDOW has of all that was DEDUCTED: that times the UNITS of its TICKETS (of any state) by"
-                + " UNITS of all, cut.", BookEdges::premiumOfAny);
+        Doc.promise(23, "What a WINDOW has of all that was DEDUCTED: that times the UNITS of its TICKETS (of any"
+                + " state) by UNITS of all, cut.", BookEdges::premiumOfAny);
         Doc.promise(23, "UNKNOWN;", BookEdges::premiumUnknown);
         Doc.promise(23, "ZERO: no TICKET was sold.", BookEdges::premiumZero);
     }

@@ -114,7 +114,8 @@ final class DayEdges {
     }
 
     private static void pools() {
-        Doc.promise(3, "A POOL of a KIND 0 .. 3, DEDUCTION 0 to 500, UNIT 10 to 1000: its number.", DayEdges::poolTaken);
+        Doc.promise(3, "A POOL of a KIND 0 .. 3, DEDUCTION 0 to 500, UNIT 10 to 1000: its number.",
+                DayEdges::poolTaken);
         Doc.promise(3, "UNKNOWN;", DayEdges::poolUnknown);
         Doc.promise(3, "OUTSIDE;", DayEdges::poolOutside);
         Doc.promise(3, "SAME: it is there;", DayEdges::poolSame);

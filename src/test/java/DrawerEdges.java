@@ -200,8 +200,8 @@ final class DrawerEdges {
     }
 
     private static void notes() {
-        Doc.promise(27, "A SLIP holds a NOTE of n CHARS (1 .. 4), 16 bits of letters each, the highest of the lowest 16 n"
-                + " first: n.", DrawerEdges::noted);
+        Doc.promise(27, "A SLIP holds a NOTE of n CHARS (1 .. 4), 16 bits of letters each, the highest of the lowest"
+                + " 16 n first: n.", DrawerEdges::noted);
         Doc.promise(27, "UNKNOWN;", DrawerEdges::noteUnknown);
         Doc.promise(27, "OUTSIDE;", DrawerEdges::noteOutside);
         Doc.promise(27, "NULL;", DrawerEdges::noteNull);

@@ -6,7 +6,8 @@ public final class ExtremesTest {
     private static final int LEAST = Integer.MIN_VALUE, MOST = Integer.MAX_VALUE;
     private static final int[] MANY = {LEAST, LEAST + 1, -1, 0, 1, 2, MOST - 1, MOST};
     private static final int[] FEW = {LEAST, -1, 0, 1, MOST};
-    private static final long[] LETTERS = {Long.MIN_VALUE, Long.MIN_VALUE + 1, -1L, 0L, 1L, LEAST, MOST, Long.MAX_VALUE};
+    private static final long[] LETTERS = {Long.MIN_VALUE, Long.MIN_VALUE + 1, -1L, 0L, 1L, LEAST, MOST,
+        Long.MAX_VALUE};
     /** After so many calls of the grid the day begins anew, so that an object is not used for more than it is for. */
     private static final int CALLS = 300;
 

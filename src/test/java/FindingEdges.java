@@ -16,8 +16,8 @@ final class FindingEdges {
         drawersAndSatchels();
         laps();
         bodies();
-        Doc.holds(Doc.FINDINGS, "Numbers of RACES, POOLS, TICKETS that are none: UNKNOWN; a RUNNER that is none, what does not"
-                + " count and is not 0: OUTSIDE.", FindingEdges::numbersOfNothing);
+        Doc.holds(Doc.FINDINGS, "Numbers of RACES, POOLS, TICKETS that are none: UNKNOWN; a RUNNER that is none, what"
+                + " does not count and is not 0: OUTSIDE.", FindingEdges::numbersOfNothing);
     }
 
     /** WINDOW 0: TICKETS 0 .. 4 by KIND, a NOTE of 2, a ROW of 2, NOTHING; SATCHEL 0 of FORM 0 with 2 places. */
@@ -35,8 +35,8 @@ final class FindingEdges {
     }
 
     private static void findings() {
-        Doc.holds(Doc.FINDINGS, "FINDINGS are what an act meets; it answers -10 less its number, and changes nothing but as"
-                + " told:", FindingEdges::findingsChangeNothing);
+        Doc.holds(Doc.FINDINGS, "FINDINGS are what an act meets; it answers -10 less its number, and changes nothing"
+                + " but as told:", FindingEdges::findingsChangeNothing);
         Doc.holds(Doc.FINDINGS, "1 NULL: the DRAWER is LOST, a SLIP holds NOTHING, there is no SATCHEL;",
                 FindingEdges::nullFound);
         Doc.holds(Doc.FINDINGS, "2 INDEX: there is no such SLIP, CHAR, COIN, place, LAP;", FindingEdges::indexFound);
@@ -159,13 +159,14 @@ final class FindingEdges {
     }
 
     private static void drawersAndSatchels() {
-        Doc.holds(Doc.FINDINGS, "DRAWERS of WINDOWS (LOST at first) are rows of 0 to 12 SLIPS;", FindingEdges::drawerSizes);
-        Doc.holds(Doc.FINDINGS, "each holds NOTHING (at first), a TICKET, a NOTE (1 to 4 CHARS) or a ROW of COINS (ints, 8 at"
-                + " most).", FindingEdges::slipContents);
-        Doc.holds(Doc.FINDINGS, "SATCHELS 0 .. 3 (none at first) of a FORM have 0 to 10 places with a TICKET or NOTHING:",
-                FindingEdges::satchelSizes);
-        Doc.holds(Doc.FINDINGS, "FORM 0 takes TICKETS, 1 those of WIN (and of PLACE: these are such, too), 2 of PAIR (and of"
-                + " ORDER, likewise), 3 of ORDER, 4 of THE DOUBLE, 5 of PLACE.", FindingEdges::forms);
+        Doc.holds(Doc.FINDINGS, "DRAWERS of WINDOWS (LOST at first) are rows of 0 to 12 SLIPS;",
+                FindingEdges::drawerSizes);
+        Doc.holds(Doc.FINDINGS, "each holds NOTHING (at first), a TICKET, a NOTE (1 to 4 CHARS) or a ROW of COINS"
+                + " (ints, 8 at most).", FindingEdges::slipContents);
+        Doc.holds(Doc.FINDINGS, "SATCHELS 0 .. 3 (none at first) of a FORM have 0 to 10 places with a TICKET or"
+                + " NOTHING:", FindingEdges::satchelSizes);
+        Doc.holds(Doc.FINDINGS, "FORM 0 takes TICKETS, 1 those of WIN (and of PLACE: these are such, too), 2 of PAIR"
+                + " (and of ORDER, likewise), 3 of ORDER, 4 of THE DOUBLE, 5 of PLACE.", FindingEdges::forms);
         Doc.holds(Doc.FINDINGS, "Each takes NOTHING, too; none takes a NOTE, a ROW.", FindingEdges::formsOfOther);
     }
 
@@ -254,8 +255,8 @@ final class FindingEdges {
     }
 
     private static void laps() {
-        Doc.holds(Doc.FINDINGS, "LAPS of a RACE (12 at most) are floats, told by 32 bits; what is no number by 0x7FC00000"
-                + " alone, whatever bits came.", FindingEdges::lapsByBits);
+        Doc.holds(Doc.FINDINGS, "LAPS of a RACE (12 at most) are floats, told by 32 bits; what is no number by"
+                + " 0x7FC00000 alone, whatever bits came.", FindingEdges::lapsByBits);
         Doc.holds(Doc.FINDINGS, "NUMBERS are those that are neither that nor endless.", FindingEdges::numbers);
     }
 
@@ -285,12 +286,13 @@ final class FindingEdges {
     }
 
     private static void bodies() {
-        Doc.holds(Doc.FINDINGS, "BODIES, each of which writes its number behind THE TRACE as it begins (100 at most; emptied by"
-                + " each call of ask(), also one that is refused):", FindingEdges::traceIsEmptied);
+        Doc.holds(Doc.FINDINGS, "BODIES, each of which writes its number behind THE TRACE as it begins (100 at most;"
+                + " emptied by each call of ask(), also one that is refused):", FindingEdges::traceIsEmptied);
         Doc.holds(Doc.FINDINGS, "WEIGHT: WIN (10) its UNITS;", FindingEdges::winWeight);
         Doc.holds(Doc.FINDINGS, "PLACE (11) what a WIN does (10 follows), by 2, cut;", FindingEdges::placeWeight);
         Doc.holds(Doc.FINDINGS, "PAIR (12) its UNITS (10 follows) by 3 times;", FindingEdges::pairWeight);
-        Doc.holds(Doc.FINDINGS, "ORDER (13) twice what a PAIR does (12 and what follows it);", FindingEdges::orderWeight);
+        Doc.holds(Doc.FINDINGS, "ORDER (13) twice what a PAIR does (12 and what follows it);",
+                FindingEdges::orderWeight);
         Doc.holds(Doc.FINDINGS, "DOUBLE (14) its UNITS (10 follows) and 1.", FindingEdges::doubleWeight);
         Doc.holds(Doc.FINDINGS, "POINTS: of all (20) 5 times the WEIGHT (what tells that follows);",
                 FindingEdges::commonPoints);

@@ -47,8 +47,8 @@ final class GridDay {
     }
 
     private void tickets(ToteHouse x) {
-        int[][] sold = {{0, 1, 0, 0}, {0, 2, 0, 0}, {2, 1, 2, 0}, {3, 1, 2, 3}, {4, 1, 0, 0}, {8, 1, 0, 0}, {8, 1, 0, 0},
-            {8, 6, 0, 0}, {1, 1, 0, 0}, {4, 6, 0, 0}};
+        int[][] sold = {{0, 1, 0, 0}, {0, 2, 0, 0}, {2, 1, 2, 0}, {3, 1, 2, 3}, {4, 1, 0, 0}, {8, 1, 0, 0},
+            {8, 1, 0, 0}, {8, 6, 0, 0}, {1, 1, 0, 0}, {4, 6, 0, 0}};
         for (int t = 0; t < sold.length; t++) {
             x.sell(t % 6, sold[t][0], sold[t][1], sold[t][2], sold[t][3], t + 3);
         }
@@ -133,6 +133,10 @@ final class GridDay {
 
     boolean isIn(int race, int state) {
         return hasRace(race) && STATES[race] == state;
+    }
+
+    boolean isNotIn(int race, int state) {
+        return hasRace(race) && STATES[race] != state;
     }
 
     int left(int race) {

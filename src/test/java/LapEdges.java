@@ -241,7 +241,8 @@ final class LapEdges {
     private static void remainders() {
         Doc.promise(45, "Bits of the remainder (as this language has it) of LAP k by a step told by bits, as floats;",
                 LapEdges::remainderTold);
-        Doc.promise(45, "0x7FC00000: the LAP is no NUMBER, or the step is no number, or 0.", LapEdges::remainderOfNone);
+        Doc.promise(45, "0x7FC00000: the LAP is no NUMBER, or the step is no number, or 0.",
+                LapEdges::remainderOfNone);
         Doc.promise(45, "0: UNKNOWN, INDEX.", LapEdges::remainderRefused);
     }
 

@@ -10,9 +10,9 @@ public final class ModelTest {
     private static final int RUNS = 500, CALLS = 512;
     /** So many of them are kept for the results of all RACES, and for looks. */
     private static final int AT_THE_END = 210, LOOKS = 110;
-    private static final Set<String> LOOKING = Set.of("raceAt", "ticket", "units", "dividend", "odds", "book", "worst",
-            "premium", "kind", "read", "letter", "coinAt", "change", "held", "lapAt", "pace", "remainder", "ask", "trace",
-            "count");
+    private static final Set<String> LOOKING = Set.of("raceAt", "ticket", "units", "dividend", "odds", "book",
+            "worst", "premium", "kind", "read", "letter", "coinAt", "change", "held", "lapAt", "pace", "remainder",
+            "ask", "trace", "count");
     private static final int[] EDGES = {-1, 0, 1, 2, 4, 5, 6, 8, 9, 10, 11, 12, 13, 48, 49, 200, 500, 501, 1000, 1001,
         -2, Integer.MIN_VALUE, Integer.MAX_VALUE};
     private static final int[] BITS = {0, Integer.MIN_VALUE, 1, 0x3F800000, 0xBF800000, 0x7F7FFFFF, 0xFF7FFFFF,

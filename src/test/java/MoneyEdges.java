@@ -31,11 +31,12 @@ final class MoneyEdges {
     }
 
     private static void settling() {
-        Doc.holds(Doc.MONEY, "A RACE's POOLS are SETTLED by KIND when it becomes OFFICIAL, THE DOUBLE (behind them) when both"
-                + " its RACES are.", MoneyEdges::settledWhenOfficial);
+        Doc.holds(Doc.MONEY, "A RACE's POOLS are SETTLED by KIND when it becomes OFFICIAL, THE DOUBLE (behind them)"
+                + " when both its RACES are.", MoneyEdges::settledWhenOfficial);
         Doc.holds(Doc.MONEY, "GROSS: the STAKES of the POOL's LIVE TICKETS;", MoneyEdges::grossOfLive);
         Doc.holds(Doc.MONEY, "DEDUCTED: GROSS times DEDUCTION by 1000, cut;", MoneyEdges::deductedIsCut);
-        Doc.holds(Doc.MONEY, "NET: GROSS less DEDUCTED, and what was CARRIED IN (ORDER alone).", MoneyEdges::netWithCarried);
+        Doc.holds(Doc.MONEY, "NET: GROSS less DEDUCTED, and what was CARRIED IN (ORDER alone).",
+                MoneyEdges::netWithCarried);
         Doc.holds(Doc.MONEY, "What WINS and has LIVE UNITS are the TAKERS.", MoneyEdges::takersHaveLiveUnits);
     }
 
@@ -145,8 +146,8 @@ final class MoneyEdges {
     private static void nobodyTakes() {
         Doc.holds(Doc.MONEY, "VOID, or no TAKERS: all LIVE TICKETS are REFUNDED, nothing is DEDUCTED;",
                 MoneyEdges::refundedWithoutTakers);
-        Doc.holds(Doc.MONEY, "but an ORDER that is not VOID, without TAKERS: its NET is CARRIED OUT (and its TICKETS get"
-                + " nothing).", MoneyEdges::orderWithoutTakers);
+        Doc.holds(Doc.MONEY, "but an ORDER that is not VOID, without TAKERS: its NET is CARRIED OUT (and its TICKETS"
+                + " get nothing).", MoneyEdges::orderWithoutTakers);
         Doc.holds(Doc.MONEY, "What was CARRIED IN to a VOID ORDER is CARRIED OUT.", MoneyEdges::voidOrderCarries);
     }
 
@@ -226,8 +227,8 @@ final class MoneyEdges {
     }
 
     private static void carrying() {
-        Doc.holds(Doc.MONEY, "CARRIED OUT goes to the ORDER of the least RACE behind this one that has one and is not OFFICIAL"
-                + " (CARRIED IN there), or, without such, to THE REST.", MoneyEdges::carriedToTheNext);
+        Doc.holds(Doc.MONEY, "CARRIED OUT goes to the ORDER of the least RACE behind this one that has one and is not"
+                + " OFFICIAL (CARRIED IN there), or, without such, to THE REST.", MoneyEdges::carriedToTheNext);
         Doc.holds(Doc.MONEY, "or, without such, to THE REST.", MoneyEdges::carriedToTheRest);
     }
 
@@ -303,12 +304,12 @@ final class MoneyEdges {
     }
 
     private static void sharing() {
-        Doc.holds(Doc.MONEY, "WIN, PAIR, ORDER, THE DOUBLE: each TAKER has NET by how many TAKERS there are, cut; the DIVIDEND"
-                + " of a UNIT is that by the TAKER's UNITS, cut to whole tens.", MoneyEdges::sharedByTakers);
+        Doc.holds(Doc.MONEY, "WIN, PAIR, ORDER, THE DOUBLE: each TAKER has NET by how many TAKERS there are, cut; the"
+                + " DIVIDEND of a UNIT is that by the TAKER's UNITS, cut to whole tens.", MoneyEdges::sharedByTakers);
         Doc.holds(Doc.MONEY, "PLACE: GAIN is NET less the STAKES of the TAKERS.", MoneyEdges::gainOfPlace);
         Doc.holds(Doc.MONEY, "Below 0: the DIVIDEND is the UNIT, the COST less GAIN.", MoneyEdges::gainBelowZero);
-        Doc.holds(Doc.MONEY, "Else each has GAIN by how many TAKERS, cut; the DIVIDEND is the UNIT and that by the TAKER's"
-                + " UNITS, cut to whole tens.", MoneyEdges::gainIsShared);
+        Doc.holds(Doc.MONEY, "Else each has GAIN by how many TAKERS, cut; the DIVIDEND is the UNIT and that by the"
+                + " TAKER's UNITS, cut to whole tens.", MoneyEdges::gainIsShared);
         Doc.holds(Doc.MONEY, "BREAKAGE: what of NET (and COST) is left when all UNITS of TAKERS have their DIVIDEND.",
                 MoneyEdges::breakageIsLeft);
         Doc.holds(Doc.MONEY, "DUE of a TICKET: its UNITS times the DIVIDEND for its RUNNERS (0 if these did not WIN).",

@@ -22,9 +22,9 @@ final class RefusalEdges {
     }
 
     static void all() {
-        Doc.holds(Doc.FINDINGS, "Refusals, of several the first as told by each call: UNKNOWN (there is no such thing),"
-                + " OUTSIDE (a number is not as told), SAME, GONE, STATE, FULL, FINDINGS; they change nothing but what is"
-                + " told.", RefusalEdges::areHeld);
+        Doc.holds(Doc.FINDINGS, "Refusals, of several the first as told by each call: UNKNOWN (there is no such"
+                + " thing), OUTSIDE (a number is not as told), SAME, GONE, STATE, FULL, FINDINGS; they change nothing"
+                + " but what is told.", RefusalEdges::areHeld);
     }
 
     private static void areHeld() {
@@ -73,7 +73,7 @@ final class RefusalEdges {
                 .refuses(UNKNOWN, (d, a) -> !d.hasRace(a[0]))
                 .refuses(OUTSIDE, (d, a) -> !between(0, a[1], 3) || !areTerms(a[2], a[3]))
                 .refuses(SAME, (d, a) -> d.hasRace(a[0]) && between(0, a[1], 3) && d.hasPool(4 * a[0] + a[1]))
-                .refuses(STATE, (d, a) -> d.hasRace(a[0]) && !d.isIn(a[0], 0))
+                .refuses(STATE, (d, a) -> d.isNotIn(a[0], 0))
                 .never(UNKNOWN, SAME, STATE)
                 .run();
         of(4, "twin").on(GridDay.SINGLE, GridDay.DOUBLED).by(-1, 0, 1, 2, 7, 9).by(-1, 0, 1, 2, 7, 9)
@@ -81,14 +81,14 @@ final class RefusalEdges {
                 .refuses(UNKNOWN, (d, a) -> !d.hasRace(a[0]) || !d.hasRace(a[1]))
                 .refuses(OUTSIDE, (d, a) -> a[0] >= a[1] || !areTerms(a[2], a[3]))
                 .refuses(SAME, (d, a) -> d.hasDouble())
-                .refuses(STATE, (d, a) -> (d.hasRace(a[0]) && !d.isIn(a[0], 0)) || (d.hasRace(a[1]) && !d.isIn(a[1], 0)))
+                .refuses(STATE, (d, a) -> d.isNotIn(a[0], 0) || d.isNotIn(a[1], 0))
                 .run();
         for (int promise = 5; promise <= 6; promise++) {
             of(promise, promise == 5 ? "substitute" : "scratch").by(RACES).by(RUNNERS)
                     .refuses(UNKNOWN, (d, a) -> !d.hasRace(a[0]))
                     .refuses(OUTSIDE, (d, a) -> !d.hasRunner(a[0], a[1]))
                     .refuses(GONE, (d, a) -> d.isOut(a[0], a[1]))
-                    .refuses(STATE, (d, a) -> d.hasRace(a[0]) && !d.isIn(a[0], 0))
+                    .refuses(STATE, (d, a) -> d.isNotIn(a[0], 0))
                     .never(UNKNOWN, GONE, STATE).never(OUTSIDE, GONE)
                     .run();
         }
@@ -97,20 +97,20 @@ final class RefusalEdges {
     private static void results() {
         of(7, "off").by(RACES)
                 .refuses(UNKNOWN, (d, a) -> !d.hasRace(a[0]))
-                .refuses(STATE, (d, a) -> d.hasRace(a[0]) && !d.isIn(a[0], 0))
+                .refuses(STATE, (d, a) -> d.isNotIn(a[0], 0))
                 .never(UNKNOWN, STATE)
                 .run();
         of(8, "place").by(RACES).by(RUNNERS).by(LEAST, -1, 0, 1, 12, 13, MOST)
                 .refuses(UNKNOWN, (d, a) -> !d.hasRace(a[0]))
                 .refuses(OUTSIDE, (d, a) -> !d.hasRunner(a[0], a[1]) || !between(0, a[2], 12))
                 .refuses(GONE, (d, a) -> d.isOut(a[0], a[1]))
-                .refuses(STATE, (d, a) -> d.hasRace(a[0]) && !d.isIn(a[0], 1))
+                .refuses(STATE, (d, a) -> d.isNotIn(a[0], 1))
                 .never(UNKNOWN, GONE, STATE)
                 .run();
         // RACE 1 has POSITIONS 1 and 3, RACE 6 1, 2 and 4, RACE 8 1, 2 and 3; RACE 4 has no RUNNER left.
         of(9, "official").by(RACES)
                 .refuses(UNKNOWN, (d, a) -> !d.hasRace(a[0]))
-                .refuses(STATE, (d, a) -> d.hasRace(a[0]) && !d.isIn(a[0], 1))
+                .refuses(STATE, (d, a) -> d.isNotIn(a[0], 1))
                 .refuses(STATE2, (d, a) -> a[0] == 1 || a[0] == 6)
                 .refuses(STATE3, (d, a) -> d.hasRace(a[0]) && a[0] != 0 && a[0] != 4 && a[0] != 6 && a[0] != 8)
                 .never(UNKNOWN, STATE, STATE2, STATE3).never(STATE, STATE2)
@@ -155,7 +155,7 @@ final class RefusalEdges {
     }
 
     private static boolean isNotSelling(GridDay d, int pool) {
-        return d.hasPool(pool) && (!d.isIn(raceOf(pool, 0), 0) || !d.isIn(raceOf(pool, 1), 0));
+        return d.hasPool(pool) && (d.isNotIn(raceOf(pool, 0), 0) || d.isNotIn(raceOf(pool, 1), 0));
     }
 
     private static void tickets() {
@@ -171,13 +171,13 @@ final class RefusalEdges {
         of(12, "cancel").by(TICKETS)
                 .refuses(UNKNOWN, (d, a) -> !d.hasTicket(a[0]))
                 .refuses(STATE, (d, a) -> d.hasTicket(a[0]) && !d.isLive(a[0]))
-                .refuses(STATE2, (d, a) -> d.hasTicket(a[0]) && !d.isIn(d.raceOfTicket(a[0]), 0))
+                .refuses(STATE2, (d, a) -> d.hasTicket(a[0]) && d.isNotIn(d.raceOfTicket(a[0]), 0))
                 .never(UNKNOWN, STATE, STATE2)
                 .run();
         of(13, "pay").by(TICKETS)
                 .refuses(UNKNOWN, (d, a) -> !d.hasTicket(a[0]))
                 .refuses(STATE, (d, a) -> d.hasTicket(a[0]) && !d.isLive(a[0]))
-                .refuses(STATE2, (d, a) -> d.hasTicket(a[0]) && !d.isIn(d.raceOfTicket(a[0]), 2))
+                .refuses(STATE2, (d, a) -> d.hasTicket(a[0]) && d.isNotIn(d.raceOfTicket(a[0]), 2))
                 .never(UNKNOWN, STATE, STATE2)
                 .run();
         of(14, "ticket").by(TICKETS).by(LEAST, -1, 0, 7, 8, MOST)

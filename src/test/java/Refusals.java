@@ -8,8 +8,8 @@ import java.util.regex.Matcher;
 import java.util.regex.Pattern;
 
 /**
- * The refusals of one call, in the document's order, over a grid of arguments: each one has to be met alone and with each
- * other one, the first is the answer, and nothing is changed but what is told.
+ * The refusals of one call, in the document's order, over a grid of arguments: each one has to be met alone and with
+ * each other one, the first is the answer, and nothing is changed but what is told.
  */
 final class Refusals {
     interface Met {

@@ -52,7 +52,8 @@ final class SatchelEdges {
     }
 
     private static void satchels() {
-        Doc.promise(36, "SATCHEL s (0 .. 3) is a new one of a FORM 0 .. 5 with n places: n.", SatchelEdges::satchelTaken);
+        Doc.promise(36, "SATCHEL s (0 .. 3) is a new one of a FORM 0 .. 5 with n places: n.",
+                SatchelEdges::satchelTaken);
         Doc.promise(36, "UNKNOWN;", SatchelEdges::satchelUnknown);
         Doc.promise(36, "OUTSIDE: the FORM, n is above 10;", SatchelEdges::satchelOutside);
         Doc.promise(36, "SIZE.", SatchelEdges::satchelSize);
@@ -110,8 +111,8 @@ final class SatchelEdges {
     }
 
     private static void gathers() {
-        Doc.promise(37, "What n SLIPS (0 .. 12) of a WINDOW hold, from SLIP i on, comes into SATCHEL s, too, one by one,"
-                + " from place at on: n;", SatchelEdges::gathered);
+        Doc.promise(37, "What n SLIPS (0 .. 12) of a WINDOW hold, from SLIP i on, comes into SATCHEL s, too, one by"
+                + " one, from place at on: n;", SatchelEdges::gathered);
         Doc.promise(37, "(0 .. 12)", SatchelEdges::gatheredNone);
         Doc.promise(37, "those ahead of one with a FINDING are there.", SatchelEdges::gatheredInPart);
         Doc.promise(37, "UNKNOWN: SATCHEL, WINDOW;", SatchelEdges::gatherUnknown);
@@ -492,8 +493,8 @@ final class SatchelEdges {
     }
 
     private static void cashes() {
-        Doc.promise(41, "TICKETS of a SATCHEL, place by place, are PAID, those that can not be (NOTHING, too) passed over:"
-                + " what they get together.", SatchelEdges::cashed);
+        Doc.promise(41, "TICKETS of a SATCHEL, place by place, are PAID, those that can not be (NOTHING, too) passed"
+                + " over: what they get together.", SatchelEdges::cashed);
         Doc.promise(41, "UNKNOWN;", SatchelEdges::cashUnknown);
         Doc.promise(41, "NULL.", SatchelEdges::cashNull);
     }

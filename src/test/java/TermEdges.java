@@ -12,7 +12,8 @@ final class TermEdges {
     }
 
     static void all() {
-        Doc.holds(Doc.USE, "An object is used for at most 512 calls after it has been made;", TermEdges::usedFor512Calls);
+        Doc.holds(Doc.USE, "An object is used for at most 512 calls after it has been made;",
+                TermEdges::usedFor512Calls);
         racesAndPools();
         tickets();
         takenOut();
@@ -70,11 +71,11 @@ final class TermEdges {
     }
 
     private static void racesAndPools() {
-        Doc.holds(Doc.TERMS, "RACES 0, 1, .. (12 at most) have RUNNERS 1 .. as many as were told (2 to 12); a RUNNER may be"
-                + " OUT.", TermEdges::racesHaveRunners);
+        Doc.holds(Doc.TERMS, "RACES 0, 1, .. (12 at most) have RUNNERS 1 .. as many as were told (2 to 12); a RUNNER"
+                + " may be OUT.", TermEdges::racesHaveRunners);
         Doc.holds(Doc.TERMS, "A RACE is SELLING (0), OFF (1) or OFFICIAL (2).", TermEdges::raceStates);
-        Doc.holds(Doc.TERMS, "POOLS: of a RACE r those of KINDS 0 WIN, 1 PLACE, 2 PAIR, 3 ORDER that were told, numbered 4"
-                + " r + KIND;", TermEdges::poolNumbers);
+        Doc.holds(Doc.TERMS, "POOLS: of a RACE r those of KINDS 0 WIN, 1 PLACE, 2 PAIR, 3 ORDER that were told,"
+                + " numbered 4 r + KIND;", TermEdges::poolNumbers);
         Doc.holds(Doc.TERMS, "and THE DOUBLE, 48, of two RACES, the FIRST and the SECOND (KIND 4).",
                 TermEdges::theDoubleIs48);
         Doc.holds(Doc.TERMS, "Each has a DEDUCTION (thousandths) and a UNIT (cents, whole tens).",
@@ -167,9 +168,11 @@ final class TermEdges {
     }
 
     private static void tickets() {
-        Doc.holds(Doc.TERMS, "TICKETS 0, 1, .. (200 at most) are of a POOL, for RUNNERS a, b, c", TermEdges::ticketNumbers);
-        Doc.holds(Doc.TERMS, "(WIN, PLACE: a; PAIR: a and b, the lesser number first; ORDER: a, b, c, in this order; THE"
-                + " DOUBLE: a of the FIRST RACE, b of the SECOND; what does not count is 0),", TermEdges::ticketRunners);
+        Doc.holds(Doc.TERMS, "TICKETS 0, 1, .. (200 at most) are of a POOL, for RUNNERS a, b, c",
+                TermEdges::ticketNumbers);
+        Doc.holds(Doc.TERMS, "(WIN, PLACE: a; PAIR: a and b, the lesser number first; ORDER: a, b, c, in this order;"
+                + " THE DOUBLE: a of the FIRST RACE, b of the SECOND; what does not count is 0),",
+                TermEdges::ticketRunners);
         Doc.holds(Doc.TERMS, "of UNITS (1 to 1000), sold at a WINDOW (0 .. 5).", TermEdges::ticketUnitsAndWindow);
         Doc.holds(Doc.TERMS, "Its STAKE is its UNITS times the POOL's UNIT.", TermEdges::ticketStake);
         Doc.holds(Doc.TERMS, "State: 0 LIVE, 1 CANCELLED, 2 REFUNDED, 3 PAID.", TermEdges::ticketStates);
@@ -197,8 +200,8 @@ final class TermEdges {
         x.twin(0, 1, 0, 10);
         int[][] told = {{0, 12, 0, 0}, {1, 12, 0, 0}, {2, 12, 1, 0}, {2, 1, 12, 0}, {3, 12, 1, 11}, {3, 1, 11, 12},
             {48, 12, 1, 0}, {48, 1, 12, 0}, {48, 12, 12, 0}};
-        int[][] kept = {{12, 0, 0}, {12, 0, 0}, {1, 12, 0}, {1, 12, 0}, {12, 1, 11}, {1, 11, 12}, {12, 1, 0}, {1, 12, 0},
-            {12, 12, 0}};
+        int[][] kept = {{12, 0, 0}, {12, 0, 0}, {1, 12, 0}, {1, 12, 0}, {12, 1, 11}, {1, 11, 12}, {12, 1, 0},
+            {1, 12, 0}, {12, 12, 0}};
         for (int t = 0; t < told.length; t++) {
             due(x.sell(0, told[t][0], told[t][1], told[t][2], told[t][3], 1), t);
             for (int i = 0; i < 3; i++) {
@@ -250,16 +253,16 @@ final class TermEdges {
     }
 
     private static void takenOut() {
-        Doc.holds(Doc.TERMS, "A RUNNER that is taken OUT: by numbers, each LIVE TICKET of the RACE's POOLS and THE DOUBLE"
-                + " for that RUNNER of that RACE is REFUNDED;", TermEdges::takenOutIsRefunded);
-        Doc.holds(Doc.TERMS, "but of THE DOUBLE, if that RACE has a SUBSTITUTE that is not OUT (nor this RUNNER), it is for"
-                + " that one from now on.", TermEdges::takenOutIsSubstituted);
+        Doc.holds(Doc.TERMS, "A RUNNER that is taken OUT: by numbers, each LIVE TICKET of the RACE's POOLS and THE"
+                + " DOUBLE for that RUNNER of that RACE is REFUNDED;", TermEdges::takenOutIsRefunded);
+        Doc.holds(Doc.TERMS, "but of THE DOUBLE, if that RACE has a SUBSTITUTE that is not OUT (nor this RUNNER), it"
+                + " is for that one from now on.", TermEdges::takenOutIsSubstituted);
     }
 
     private static void takenOutIsRefunded() {
         ToteHouse x = Given.twoRaces();
-        int[][] sold = {{0, 2, 0, 0}, {1, 2, 0, 0}, {2, 2, 3, 0}, {2, 1, 2, 0}, {3, 2, 1, 3}, {3, 1, 2, 3}, {3, 1, 3, 2},
-            {48, 2, 1, 0}};
+        int[][] sold = {{0, 2, 0, 0}, {1, 2, 0, 0}, {2, 2, 3, 0}, {2, 1, 2, 0}, {3, 2, 1, 3}, {3, 1, 2, 3},
+            {3, 1, 3, 2}, {48, 2, 1, 0}};
         int[][] other = {{0, 1, 0, 0}, {1, 3, 0, 0}, {2, 1, 3, 0}, {3, 1, 3, 4}, {48, 1, 2, 0}, {4, 2, 0, 0},
             {6, 1, 2, 0}};
         for (int[] s : sold) {
@@ -334,10 +337,10 @@ final class TermEdges {
     }
 
     private static void positions() {
-        Doc.holds(Doc.RESULTS, "POSITIONS (1 .. 12) are told for RUNNERS of a RACE that is OFF; several RUNNERS may have the"
-                + " same one.", TermEdges::positionsTold);
-        Doc.holds(Doc.RESULTS, "They are RIGHT, if for each RUNNER with POSITION p just p - 1 others have a lesser one.",
-                TermEdges::positionsRight);
+        Doc.holds(Doc.RESULTS, "POSITIONS (1 .. 12) are told for RUNNERS of a RACE that is OFF; several RUNNERS may"
+                + " have the same one.", TermEdges::positionsTold);
+        Doc.holds(Doc.RESULTS, "They are RIGHT, if for each RUNNER with POSITION p just p - 1 others have a lesser"
+                + " one.", TermEdges::positionsRight);
     }
 
     private static void positionsTold() {
@@ -375,12 +378,12 @@ final class TermEdges {
     }
 
     private static void whatWins() {
-        Doc.holds(Doc.RESULTS, "A ROW of RUNNERS with POSITIONS, all different, FITS, if it has as many as it is to have, no"
-                + " RUNNER in it has a greater POSITION than one behind it, and none that is not in it a lesser POSITION than"
-                + " one in it.", TermEdges::rowsThatFit);
+        Doc.holds(Doc.RESULTS, "A ROW of RUNNERS with POSITIONS, all different, FITS, if it has as many as it is to"
+                + " have, no RUNNER in it has a greater POSITION than one behind it, and none that is not in it a"
+                + " lesser POSITION than one in it.", TermEdges::rowsThatFit);
         Doc.holds(Doc.RESULTS, "What WINS: WIN: each ROW of one that FITS.", TermEdges::winWins);
-        Doc.holds(Doc.RESULTS, "PLACE: with 5 to 7 RUNNERS that are not OUT those with POSITIONS 1 and 2, with 8 or more those"
-                + " with 1 to 3; with fewer it is VOID.", TermEdges::placeWins);
+        Doc.holds(Doc.RESULTS, "PLACE: with 5 to 7 RUNNERS that are not OUT those with POSITIONS 1 and 2, with 8 or"
+                + " more those with 1 to 3; with fewer it is VOID.", TermEdges::placeWins);
         Doc.holds(Doc.RESULTS, "PAIR: the two of each ROW of two that FITS.", TermEdges::pairWins);
         Doc.holds(Doc.RESULTS, "ORDER: each ROW of three that FITS.", TermEdges::orderWins);
         Doc.holds(Doc.RESULTS, "(With fewer than 2, 3 RUNNERS that are not OUT PAIR, ORDER are VOID.)",
