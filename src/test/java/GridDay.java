@@ -1,4 +1,4 @@
-/** A day with something in every corner, what is true of it, and all that can be seen of it; within 512 calls. */
+/** A day with something in every corner, what is true of it, and looks at each corner; all within 512 calls. */
 final class GridDay {
     /** Nothing at all; all but THE DOUBLE; with it; and with all the RACES, TICKETS, LAPS that there may be. */
     static final GridDay NEW = new GridDay(0), SINGLE = new GridDay(1), DOUBLED = new GridDay(2), FULL = new GridDay(3);
