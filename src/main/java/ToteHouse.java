@@ -1076,7 +1076,7 @@ public final class ToteHouse {
 
     // ---- bodies
 
-    private void begin(int body) {
+    private void write(int body) {
         if (traceLength < MOST_TRACE) {
             traced[traceLength] = body;
             traceLength++;
@@ -1094,51 +1094,46 @@ public final class ToteHouse {
     }
 
     private int winWeight(Ticket t) {
-        begin(10);
+        write(10);
         return t.size;
     }
 
     private int placeWeight(Ticket t) {
-        begin(11);
+        write(11);
         return winWeight(t) / 2;
     }
 
     private int pairWeight(Ticket t) {
-        begin(12);
+        write(12);
         return 3 * winWeight(t);
     }
 
     private int orderWeight(Ticket t) {
-        begin(13);
+        write(13);
         return 2 * pairWeight(t);
     }
 
     private int doubleWeight(Ticket t) {
-        begin(14);
+        write(14);
         return winWeight(t) + 1;
     }
 
     private int pointsOf(Ticket t) {
         switch (t.pool.kind) {
-            case ORDER: return orderPoints(t);
-            case PLACE: return placePoints(t);
-            default: return commonPoints(t);
+            case ORDER:
+                write(21);
+                return commonPoints(t) - 7;
+            case PLACE:
+                write(22);
+                return t.size == 1 ? 3 : commonPoints(t);
+            default:
+                return commonPoints(t);
         }
     }
 
     private int commonPoints(Ticket t) {
-        begin(20);
+        write(20);
         return 5 * weightOf(t);
-    }
-
-    private int orderPoints(Ticket t) {
-        begin(21);
-        return commonPoints(t) - 7;
-    }
-
-    private int placePoints(Ticket t) {
-        begin(22);
-        return t.size == 1 ? 3 : commonPoints(t);
     }
 
     private static final class Race {
